@@ -207,6 +207,20 @@ final class PlainModel {
     private final int[] bits = new int[4];
     private final int[][] sheets = new int[4][];
 
+    int strips() {
+        return now.strips;
+    }
+
+    List<Integer> whensOf(int kind, int m) {
+        All t = now.twin();
+        t.rollBy(kind, m, 0, 0);
+        List<Integer> whens = new ArrayList<>();
+        for (int r = 0; r < t.rows; r++) {
+            whens.add(t.cell(r, 0).when);
+        }
+        return whens;
+    }
+
     private int error(int k) {
         errors[k]++;
         return LOW - k;

@@ -59,6 +59,10 @@ public final class RandomCallsTest {
                 if (!feedText(acts)) {
                     return false;
                 }
+            } else if (random.nextInt(25) == 0) {
+                if (!purposeful(acts)) {
+                    return false;
+                }
             } else if (!call(act, arguments(act, wild))) {
                 return false;
             }
@@ -107,6 +111,63 @@ public final class RandomCallsTest {
             }
         }
         return call(act(acts, "text"), new Object[] {random.nextInt(2)});
+    }
+
+    /** What random numbers hardly ever meet: sheets and numbers told that are so. */
+    private boolean purposeful(Method[] acts) throws Exception {
+        int strips = plain.strips();
+        int hand = random.nextInt(4);
+        switch (random.nextInt(4)) {
+            case 0:
+                List<Integer> order = new ArrayList<>();
+                for (int s = 0; s < strips; s++) {
+                    order.add(random.nextInt(order.size() + 1), s);
+                }
+                return fillSheet(acts, order) && call(act(acts, "done"), new Object[] {hand, 1});
+            case 1:
+                int strip = random.nextInt(strips);
+                List<Integer> whens = new ArrayList<>();
+                int m = plain.ofHand(hand, 1);
+                for (int when : plain.whensOf(random.nextInt(7), m)) {
+                    whens.add(when + (random.nextInt(30) == 0 ? 1 : 0));
+                }
+                return fillSheet(acts, whens) && call(act(acts, "whose"), new Object[] {hand, strip, 1});
+            case 2:
+                List<Integer> all = new ArrayList<>();
+                for (int cell = 0; cell < plain.count(0); cell++) {
+                    all.add(random.nextInt(60) == 0 ? 3 : plain.ofCell(cell, 0));
+                }
+                return fillSheet(acts, all) && call(act(acts, "judge"), new Object[] {1})
+                    && call(act(acts, "whites"), new Object[] {1});
+            default:
+                return call(act(acts, "check"), new Object[0]) && tellWhatIsSeen(acts, strips);
+        }
+    }
+
+    private boolean fillSheet(Method[] acts, List<Integer> numbers) throws Exception {
+        boolean alike = call(act(acts, "sheet"), new Object[] {1, 32, numbers.size()});
+        for (int i = 0; i < numbers.size() && alike; i++) {
+            alike = call(act(acts, "put"), new Object[] {1, i, numbers.get(i)});
+        }
+        return alike;
+    }
+
+    private boolean tellWhatIsSeen(Method[] acts, int strips) throws Exception {
+        if (plain.count(2) > 9000) {
+            return true;
+        }
+        int n = 1 + random.nextInt(8);
+        boolean alike = call(act(acts, "image"), new Object[0]);
+        List<Integer> seen = new ArrayList<>();
+        for (int i = 0; i < n && alike; i++) {
+            alike = call(act(acts, "roll"), new Object[] {0, i % strips, 0});
+            seen.add(plain.seams(1) + (random.nextInt(40) == 0 ? 1 : 0));
+        }
+        alike = alike && call(act(acts, "restore"), new Object[0]);
+        for (int i = 0; i < n && alike; i++) {
+            alike = call(act(acts, "tell"), new Object[] {seen.get(i)});
+        }
+        return alike && call(act(acts, "check"), new Object[0]);
     }
 
     private Object[] arguments(Method act, boolean wild) {
