@@ -211,7 +211,8 @@ public final class OneGoCeiling {
             return error(BEYOND);
         }
         thought.rollAll(now, hand);
-        thought.findBest(now.ceiling.heat());
+        thought.weighPlaces();
+        thought.findBelow(Thought.BEYOND_ALL_SEEN);
         return what == -1 ? thought.best() : thought.bestStripAt(what);
     }
 
@@ -220,8 +221,16 @@ public final class OneGoCeiling {
             return error(BEYOND);
         }
         thought.rollAll(now, hand);
-        int heat = thought.cleanHeat(what == 1);
-        return heat < 0 ? error(NONE) : heat;
+        for (int i = 0; i <= Ceiling.MOST_HEAT; i++) {
+            int heat = what == 0 ? i : Ceiling.MOST_HEAT - i;
+            thought.warmTo(heat);
+            thought.weighPlaces();
+            thought.findBelow(1);
+            if (thought.best() == 0) {
+                return heat;
+            }
+        }
+        return error(NONE);
     }
 
     public int called(int hand, int s, int n) {
@@ -229,7 +238,8 @@ public final class OneGoCeiling {
             return error(BEYOND);
         }
         thought.rollAll(now, hand);
-        return thought.seenWithPause(s, n);
+        thought.weighPauses(n);
+        return thought.seenCalledAhead(s);
     }
 
     public int worst(int hand, int n, int what) {
@@ -240,8 +250,9 @@ public final class OneGoCeiling {
             return error(NONE);
         }
         thought.rollAll(now, hand);
-        int s = thought.worstStrip(n);
-        return what == 0 ? s : thought.seenWithPause(s, n);
+        thought.weighPauses(n);
+        int s = thought.worstStrip();
+        return what == 0 ? s : thought.seenCalledAhead(s);
     }
 
     public int howLong(int hand, int s) {
@@ -256,7 +267,8 @@ public final class OneGoCeiling {
         if (!now.crew.has(hand)) {
             return error(BEYOND);
         }
-        return thought.rollAll(now, hand);
+        thought.rollAll(now, hand);
+        return thought.cansBegun();
     }
 
     public int whose(int hand, int strip, int sheet) {
@@ -277,7 +289,8 @@ public final class OneGoCeiling {
             return error(BEYOND);
         }
         thought.rollAll(now, hand);
-        int above = thought.waysSeenAtMost(n, v);
+        thought.weighPauses(n);
+        int above = thought.waysSeenAtMost(v);
         int below = thought.waysOfPauses();
         if (above == 0) {
             return part;
@@ -406,9 +419,19 @@ public final class OneGoCeiling {
     }
 
     public int check() {
-        int wrong = thought.firstWrong(now);
+        boolean hasHand = now.crew.has(0);
+        int answer = 0;
+        thought.begin(now);
+        for (int i = 0; i < now.waiting.length() && answer == 0; i++) {
+            if (hasHand) {
+                thought.rollNext(now, 0, i);
+            }
+            if (!hasHand || thought.seenNow() != now.waiting.at(i)) {
+                answer = 1 + i;
+            }
+        }
         now.waiting.clear();
-        return wrong + 1;
+        return answer;
     }
 
     public int count(int what) {
@@ -492,11 +515,11 @@ public final class OneGoCeiling {
         }
 
         int at(int i) {
-            return has(i) ? numbers[i] : 0;
+            return i >= 0 && i < length && i < numbers.length ? numbers[i] : 0;
         }
 
         void write(int i, int v) {
-            if (has(i)) {
+            if (i >= 0 && i < length && i < numbers.length) {
                 numbers[i] = v;
             }
         }
@@ -516,15 +539,15 @@ public final class OneGoCeiling {
 
         void fill(int n, int v) {
             length = Math.max(0, Math.min(n, numbers.length));
-            for (int i = 0; i < length; i++) {
-                write(i, v);
+            for (int i = 0; i < length && i < numbers.length; i++) {
+                numbers[i] = v;
             }
         }
 
         void take(Row other) {
             length = Math.min(other.length, numbers.length);
-            for (int i = 0; i < length; i++) {
-                write(i, other.at(i));
+            for (int i = 0; i < length && i < numbers.length; i++) {
+                numbers[i] = other.at(i);
             }
         }
 
@@ -539,12 +562,6 @@ public final class OneGoCeiling {
                     write(j + k, from.at(i + k));
                 }
             }
-        }
-
-        void swap(int i, int j) {
-            int v = at(i);
-            write(i, at(j));
-            write(j, v);
         }
     }
 
@@ -717,6 +734,7 @@ public final class OneGoCeiling {
     /** The ceiling with its cells, the can, the minute and the heat. */
     static final class Ceiling {
         static final int MOST = 6;
+        static final int MOST_HEAT = 9;
         static final int LAST_MINUTE = 9999;
 
         private static final int LAST_START = 9900;
@@ -724,7 +742,6 @@ public final class OneGoCeiling {
         private static final int LEFT = 1;
         private static final int WHITE = 2;
         private static final int SIZE = 3;
-        private static final int MOST_HEAT = 9;
         private static final int MOST_WHITE = 99;
         private static final int MOST_LEFT = 99;
         private static final int UNROLLED = -1;
@@ -970,12 +987,10 @@ public final class OneGoCeiling {
         }
 
         int value(int a, int b, int c) {
-            int v = steps.length() > 0 ? workOut(a, b, c) : use == DRIES ? 10 - c : 1 + c;
-            return Math.max(0, Math.min(MOST, v));
-        }
-
-        private int workOut(int a, int b, int c) {
-            stack.fill(MOST_STEPS, 0);
+            if (steps.length() == 0) {
+                return held(use == DRIES ? 10 - c : 1 + c);
+            }
+            stack.fill(steps.length(), 0);
             int top = -1;
             for (int i = 0; i < steps.length(); i++) {
                 int step = steps.at(i);
@@ -986,27 +1001,31 @@ public final class OneGoCeiling {
                     top++;
                     stack.write(top, step == NAME ? a : step == NAME + 1 ? b : c);
                 } else if (step == SIGN + '!') {
-                    stack.write(top, truth(stack.at(top) == 0));
+                    stack.write(top, stack.at(top) == 0 ? 1 : 0);
                 } else {
                     top--;
                     stack.write(top, join(step - SIGN, stack.at(top), stack.at(top + 1)));
                 }
             }
-            return stack.at(top);
+            return held(stack.at(top));
+        }
+
+        private static int held(int v) {
+            return Math.max(0, Math.min(MOST, v));
         }
 
         private static int join(int sign, int x, int y) {
             switch (sign) {
                 case '|':
-                    return truth(x != 0 || y != 0);
+                    return x != 0 || y != 0 ? 1 : 0;
                 case '&':
-                    return truth(x != 0 && y != 0);
+                    return x != 0 && y != 0 ? 1 : 0;
                 case '<':
-                    return truth(x < y);
+                    return x < y ? 1 : 0;
                 case '=':
-                    return truth(x == y);
+                    return x == y ? 1 : 0;
                 case '>':
-                    return truth(x > y);
+                    return x > y ? 1 : 0;
                 case '+':
                     return x + y;
                 case '-':
@@ -1018,10 +1037,6 @@ public final class OneGoCeiling {
                 default:
                     return y == 0 ? 0 : x % y;
             }
-        }
-
-        private static int truth(boolean is) {
-            return is ? 1 : 0;
         }
     }
 
@@ -1197,7 +1212,7 @@ public final class OneGoCeiling {
 
     /** Sees seams, by the two texts; remembers what they gave, for they are asked the same over and over. */
     static final class Eye {
-        private static final int HEATS = 10;
+        private static final int HEATS = Ceiling.MOST_HEAT + 1;
         private static final int WHITES = 100;
 
         private final Text dries;
@@ -1286,9 +1301,9 @@ public final class OneGoCeiling {
      * order, and column p of the thought ceiling tells any strip that is the p-th of another order.
      */
     static final class Thought {
-        private static final int ORDERS = 720;
-        private static final int BEYOND_ALL_SEEN = 1000000;
-        private static final int MOST_HEAT = 9;
+        static final int BEYOND_ALL_SEEN = 1000000;
+
+        private static final int NOT_PLACED = -1;
 
         private final Eye eye;
         private final Ceiling ceiling = new Ceiling();
@@ -1296,19 +1311,41 @@ public final class OneGoCeiling {
         private final Row places = new Row(Ceiling.MOST);
         private final Row bestStrips = new Row(Ceiling.MOST);
         private final Row seenByPlaces = new Row(Ceiling.MOST * Ceiling.MOST * Ceiling.MOST);
+        private final Row seenWithout = new Row(Ceiling.MOST);
+        private final Row seenWith = new Row(Ceiling.MOST);
         private int best = 0;
 
         Thought(Eye eye) {
             this.eye = eye;
         }
 
-        /** All strips in order, down, by a hand: how many cans are begun. */
-        int rollAll(State now, int hand) {
+        void begin(State now) {
             ceiling.take(now.ceiling);
-            for (int s = 0; s < ceiling.strips(); s++) {
-                ceiling.paint(now.crew.kindOf(hand), now.crew.numberOf(hand), s, false);
+        }
+
+        /** The strip at a place of the order 0, 1, .., and again from 0 behind the last. */
+        void rollNext(State now, int hand, int place) {
+            int strip = ceiling.strips() > 0 ? place % ceiling.strips() : 0;
+            ceiling.paint(now.crew.kindOf(hand), now.crew.numberOf(hand), strip, false);
+        }
+
+        void rollAll(State now, int hand) {
+            begin(now);
+            for (int place = 0; place < ceiling.strips(); place++) {
+                rollNext(now, hand, place);
             }
+        }
+
+        int cansBegun() {
             return ceiling.cansBegun();
+        }
+
+        int seenNow() {
+            return eye.seen(ceiling);
+        }
+
+        void warmTo(int heat) {
+            ceiling.warmTo(heat);
         }
 
         /** Whether a row of numbers is one of all strips, each once; it is the order then. */
@@ -1316,10 +1353,10 @@ public final class OneGoCeiling {
             if (numbers.length() != n) {
                 return false;
             }
-            places.fill(n, -1);
+            places.fill(n, NOT_PLACED);
             for (int i = 0; i < n; i++) {
                 int s = numbers.at(i);
-                if (!places.has(s) || places.at(s) >= 0) {
+                if (!places.has(s) || places.at(s) != NOT_PLACED) {
                     return false;
                 }
                 places.write(s, i);
@@ -1343,29 +1380,52 @@ public final class OneGoCeiling {
             return bestStrips.at(place);
         }
 
-        void findBest(int heat) {
-            ceiling.warmTo(heat);
-            weighPlaces();
-            beginOrders();
-            best = BEYOND_ALL_SEEN;
-            for (int i = 0; i < ORDERS; i++) {
-                int seen = seenByStrips();
-                if (seen < best) {
-                    best = seen;
-                    bestStrips.take(strips);
-                }
-                // No order is seen less than not at all.
-                if (best == 0 || !nextOrder()) {
-                    return;
+        /** The first order of those that are seen least, if that is below a bound; best() is the bound else. */
+        void findBelow(int bound) {
+            strips.fill(ceiling.strips(), 0);
+            places.fill(ceiling.strips(), NOT_PLACED);
+            best = bound;
+            extendOrder(0, 0);
+        }
+
+        /** Goes through all orders that begin as the strips up to a place; what is seen only grows with each. */
+        private void extendOrder(int place, int seen) {
+            int n = ceiling.strips();
+            if (seen >= best || place > n) {
+                return;
+            }
+            if (place == n) {
+                best = seen;
+                bestStrips.take(strips);
+                return;
+            }
+            for (int s = 0; s < n; s++) {
+                if (places.at(s) == NOT_PLACED) {
+                    strips.write(place, s);
+                    places.write(s, place);
+                    extendOrder(place + 1, seen + seenBeside(s));
+                    places.write(s, NOT_PLACED);
                 }
             }
+        }
+
+        private int seenBeside(int s) {
+            int sum = 0;
+            if (places.has(s - 1) && places.at(s - 1) != NOT_PLACED) {
+                sum += seenByPlaces.at(weightAt(s - 1, places.at(s - 1), places.at(s)));
+            }
+            if (places.has(s + 1) && places.at(s + 1) != NOT_PLACED) {
+                sum += seenByPlaces.at(weightAt(s, places.at(s), places.at(s + 1)));
+            }
+            return sum;
         }
 
         private static int weightAt(int s, int p, int q) {
             return (s * Ceiling.MOST + p) * Ceiling.MOST + q;
         }
 
-        private void weighPlaces() {
+        /** What is seen between two neighbours, by any places in an order. */
+        void weighPlaces() {
             int n = ceiling.strips();
             seenByPlaces.fill(Ceiling.MOST * Ceiling.MOST * Ceiling.MOST, 0);
             for (int s = 0; s + 1 < n; s++) {
@@ -1379,74 +1439,28 @@ public final class OneGoCeiling {
             }
         }
 
-        private void beginOrders() {
-            strips.clear();
-            for (int s = 0; s < ceiling.strips(); s++) {
-                strips.add(s);
+        /** What is seen ahead of each strip, if one isn't called away there, and if one is for n minutes. */
+        void weighPauses(int n) {
+            seenWithout.fill(ceiling.strips(), 0);
+            seenWith.fill(ceiling.strips(), 0);
+            for (int s = 1; s < ceiling.strips(); s++) {
+                seenWithout.write(s, eye.seenBetween(ceiling, s - 1, s - 1, s, 0));
+                seenWith.write(s, eye.seenBetween(ceiling, s - 1, s - 1, s, n));
             }
-            places.fill(ceiling.strips(), 0);
         }
 
-        private int seenByStrips() {
-            for (int i = 0; i < strips.length(); i++) {
-                places.write(strips.at(i), i);
-            }
-            int sum = 0;
-            for (int s = 0; s + 1 < strips.length(); s++) {
-                sum += seenByPlaces.at(weightAt(s, places.at(s), places.at(s + 1)));
-            }
-            return sum;
-        }
-
-        /** The next row of the strips, as rows are compared; false: this was the last. */
-        private boolean nextOrder() {
-            int last = strips.length() - 1;
-            int i = last - 1;
-            while (i >= 0 && strips.at(i) > strips.at(i + 1)) {
-                i--;
-            }
-            if (i < 0) {
-                return false;
-            }
-            int j = last;
-            while (j > i + 1 && strips.at(j) < strips.at(i)) {
-                j--;
-            }
-            strips.swap(i, j);
-            for (int a = i + 1, b = last; a < b; a++, b--) {
-                strips.swap(a, b);
-            }
-            return true;
-        }
-
-        /** The least heat, or the greatest, with which the best order is not seen; -1: none. */
-        int cleanHeat(boolean greatest) {
-            for (int i = 0; i <= MOST_HEAT; i++) {
-                int heat = greatest ? MOST_HEAT - i : i;
-                findBest(heat);
-                if (best == 0) {
-                    return heat;
-                }
-            }
-            return -1;
-        }
-
-        private int seenAhead(int s, int pause) {
-            return eye.seenBetween(ceiling, s - 1, s - 1, s, pause);
-        }
-
-        int seenWithPause(int s, int n) {
+        int seenCalledAhead(int s) {
             int sum = 0;
             for (int i = 1; i < ceiling.strips(); i++) {
-                sum += seenAhead(i, i == s ? n : 0);
+                sum += i == s ? seenWith.at(i) : seenWithout.at(i);
             }
             return sum;
         }
 
-        int worstStrip(int n) {
+        int worstStrip() {
             int worst = 1;
             for (int s = 2; s < ceiling.strips(); s++) {
-                if (seenWithPause(s, n) > seenWithPause(worst, n)) {
+                if (seenCalledAhead(s) > seenCalledAhead(worst)) {
                     worst = s;
                 }
             }
@@ -1454,9 +1468,9 @@ public final class OneGoCeiling {
         }
 
         int longestPause(int s, int most) {
-            int without = seenAhead(s, 0);
+            int without = eye.seenBetween(ceiling, s - 1, s - 1, s, 0);
             for (int n = most; n > 0; n--) {
-                if (seenAhead(s, n) <= without) {
+                if (eye.seenBetween(ceiling, s - 1, s - 1, s, n) <= without) {
                     return n;
                 }
             }
@@ -1467,34 +1481,18 @@ public final class OneGoCeiling {
             return 1 << (ceiling.strips() - 1);
         }
 
-        int waysSeenAtMost(int n, int v) {
+        int waysSeenAtMost(int v) {
             int ways = 0;
             for (int way = 0; way < waysOfPauses(); way++) {
                 int sum = 0;
                 for (int s = 1; s < ceiling.strips(); s++) {
-                    sum += seenAhead(s, (way >> (s - 1) & 1) == 1 ? n : 0);
+                    sum += (way >> (s - 1) & 1) == 1 ? seenWith.at(s) : seenWithout.at(s);
                 }
                 if (sum <= v) {
                     ways++;
                 }
             }
             return ways;
-        }
-
-        /** The place of the first number waiting that isn't what is seen behind so many strips; -1: none. */
-        int firstWrong(State now) {
-            ceiling.take(now.ceiling);
-            for (int i = 0; i < now.waiting.length(); i++) {
-                if (now.crew.size() == 0) {
-                    return i;
-                }
-                int strip = ceiling.strips() > 0 ? i % ceiling.strips() : 0;
-                ceiling.paint(now.crew.kindOf(0), now.crew.numberOf(0), strip, false);
-                if (now.waiting.at(i) != eye.seen(ceiling)) {
-                    return i;
-                }
-            }
-            return -1;
         }
     }
 

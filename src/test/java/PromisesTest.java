@@ -463,6 +463,13 @@ public final class PromisesTest {
         x.minutes(400);
         due("at 9900", x.roll(0, 0, 0), 9902);
         refuse("behind 9900", x, STATE, () -> x.roll(0, 0, 0));
+        OneGoCeiling just = made(1, 1, 20);
+        for (int i = 0; i < 19; i++) {
+            just.minutes(500);
+        }
+        just.minutes(400);
+        just.roll(0, 0, 0);
+        refuse("just behind 9900", just, STATE, () -> just.roll(0, 0, 0));
         refuse("BEYOND ahead of STATE", x, BEYOND, () -> x.roll(0, 0, 2));
         OneGoCeiling y = made(2, 3, 0);
         int[][] bad = {{1, 0, 0}, {-1, 0, 0}, {0, 3, 0}, {0, -1, 0}, {0, 0, 2}, {0, 0, -1}, {MAX, MIN, MAX}};
@@ -598,6 +605,15 @@ public final class PromisesTest {
         y.roll(0, 2, 0);
         due("all seams", y.seams(0), 4);
         due("by row and left strip", y.seams(1), 1 + 2 + 11 + 12);
+        OneGoCeiling most = made(6, 6, 30);
+        textOf(most, 0, "0");
+        textOf(most, 1, "r*10+s+1");
+        most.set(1, 99);
+        for (int strip = 0; strip < 6; strip++) {
+            most.roll(0, strip, 0);
+        }
+        due("all seams", most.seams(0), 30);
+        due("each by its own light", most.seams(1), 840);
         refuse("seams(2)", y, BEYOND, () -> y.seams(2));
         refuse("seams(-1)", y, BEYOND, () -> y.seams(-1));
         refuse("seams", y, BEYOND, () -> y.seams(MIN));
@@ -658,18 +674,19 @@ public final class PromisesTest {
         due("one strip", one.order(0, -1), 0);
         due("one strip", one.order(0, 0), 0);
         refuse("no place", one, BEYOND, () -> one.order(0, 1));
-        OneGoCeiling six = made(6, 6, 30);
-        six.set(1, 99);
-        textOf(six, 0, "(s>2)*3");
-        due("six strips stand to six places", sumOfPlaces(six), 15);
-    }
-
-    private static int sumOfPlaces(OneGoCeiling x) {
-        int sum = 0;
-        for (int place = 0; place < x.count(0) / 6; place++) {
-            sum += x.order(0, place);
+        OneGoCeiling six = made(1, 6, 0);
+        // Only neighbours stay wet for one another, and strip 0 for none: so there is but the last row.
+        textOf(six, 0, "(s>0)*2");
+        due("SEEN of the last row", six.order(0, -1), 0);
+        for (int place = 0; place < 6; place++) {
+            due("the last row", six.order(0, place), 5 - place);
         }
-        return sum;
+        OneGoCeiling down = made(3, 2, 0);
+        down.set(1, 4);
+        textOf(down, 1, "r+1");
+        due("rolled down: the new can is opened in row 1", down.order(0, -1), 5);
+        down.set(1, 5);
+        due("rolled down: the new can is opened in row 2", down.order(0, -1), 3);
     }
 
     private static void promise18() {
@@ -733,6 +750,8 @@ public final class PromisesTest {
         textOf(x, 1, "s");
         due("the last", x.worst(0, 6, 0), 3);
         due("SEEN", x.worst(0, 6, 1), 2);
+        due("not away at all", x.worst(0, 0, 0), 1);
+        due("not away at all", x.worst(0, 0, 1), 0);
         int[][] bad = {{1, 1, 0}, {-1, 1, 0}, {0, -1, 0}, {0, 501, 0}, {0, 1, 2}, {0, 1, -1}};
         for (int[] b : bad) {
             refuse("worst", x, BEYOND, () -> x.worst(b[0], b[1], b[2]));
