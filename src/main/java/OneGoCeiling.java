@@ -978,7 +978,7 @@ public final class OneGoCeiling {
             return sign == (use == DRIES ? 'h' : 'w') ? 2 : -1;
         }
 
-        void become(Row newSteps) {
+        void takeSteps(Row newSteps) {
             steps.take(newSteps);
         }
 
@@ -1063,7 +1063,7 @@ public final class OneGoCeiling {
             if (!fits || at < tape.length()) {
                 return at;
             }
-            text.become(steps);
+            text.takeSteps(steps);
             return -1;
         }
 
