@@ -1,96 +1,8 @@
-import java.util.function.IntSupplier;
-
 /** Each promise by ordinary inputs, by the edges that the document names, and by wrong inputs. */
-public final class PromisesTest {
-    private static final int BEYOND = -1000000001;
-    private static final int NONE = -1000000002;
-    private static final int STATE = -1000000003;
-    private static final int FULL = -1000000004;
-    private static final int KIND = -1000000005;
-    private static final int MIN = Integer.MIN_VALUE;
-    private static final int MAX = Integer.MAX_VALUE;
-
-    private static int wrong = 0;
-    private static int asked = 0;
-    private static String part = "";
-
-    private static void due(String what, int got, int want) {
-        asked++;
-        if (got != want) {
-            wrong++;
-            System.out.println(part + ": " + what + " is " + got + ", due is " + want);
-        }
-    }
-
-    /** All that can be seen without an error: so that an act that answers one can be shown to change nothing. */
-    private static String view(OneGoCeiling x) {
-        StringBuilder b = new StringBuilder();
-        for (int i = 0; i <= 11; i++) {
-            b.append(x.count(i)).append(' ');
-        }
-        for (int cell = 0; cell < x.count(0); cell++) {
-            for (int what = 0; what <= 3; what++) {
-                b.append(x.ofCell(cell, what)).append(' ');
-            }
-        }
-        for (int hand = 0; hand < x.count(1); hand++) {
-            for (int what = 0; what <= 5; what++) {
-                b.append(x.ofHand(hand, what)).append(' ');
-            }
-        }
-        for (int i = 0; i < 20; i++) {
-            b.append(x.law(0, i % 5, i % 3, i)).append(' ').append(x.law(1, i % 5, i % 3, i)).append(' ');
-        }
-        for (int i = 0; i < x.count(10); i++) {
-            b.append(x.trace(i)).append(' ');
-        }
-        return b.toString();
-    }
-
-    private static void refuse(String what, OneGoCeiling x, int error, IntSupplier call) {
-        int k = -1000000000 - error;
-        int[] before = new int[6];
-        for (int i = 1; i <= 5; i++) {
-            before[i] = x.told(i);
-        }
-        String was = view(x);
-        due(what, call.getAsInt(), error);
-        due(what + " leaves all as it was (1)", view(x).equals(was) ? 1 : 0, 1);
-        for (int i = 1; i <= 5; i++) {
-            due(what + ", told(" + i + ")", x.told(i), before[i] + (i == k ? 1 : 0));
-        }
-    }
-
-    private static OneGoCeiling made(int rows, int strips, int... hands) {
-        OneGoCeiling x = new OneGoCeiling();
-        x.ceiling(rows, strips);
-        for (int km : hands) {
-            x.hand(km);
-        }
-        return x;
-    }
-
-    private static void feedBytes(OneGoCeiling x, String s) {
-        for (int i = 0; i < s.length(); i++) {
-            x.feed(s.charAt(i), 1);
-        }
-    }
-
-    private static int textOf(OneGoCeiling x, int use, String s) {
-        feedBytes(x, s);
-        return x.text(use);
-    }
-
-    private static void sheetOf(OneGoCeiling x, int sheet, int bits, int... numbers) {
-        x.sheet(sheet, bits, numbers.length);
-        for (int i = 0; i < numbers.length; i++) {
-            x.put(sheet, i, numbers[i]);
-        }
-    }
-
+public final class PromisesTest extends Checks {
     private static void promise1() {
         part = "promise 1";
-        OneGoCeiling x = new OneGoCeiling();
+        Recorded x = new Recorded();
         int[] counts = {16, 0, 0, 0, 20, 0, 20, 3, 0, 0, 0, 1};
         for (int i = 0; i < counts.length; i++) {
             due("count(" + i + ")", x.count(i), counts[i]);
@@ -107,18 +19,18 @@ public final class PromisesTest {
         due("LIGHT", x.law(1, 0, 0, 4), 5);
         due("check", x.check(), 0);
         due("seams", x.seams(0) + x.seams(1), 0);
-        refuse("restore", x, NONE, x::restore);
+        refuse("restore", x, NONE, Recorded::restore);
         for (int s = 0; s < 4; s++) {
             int sheet = s;
-            refuse("judge", x, NONE, () -> x.judge(sheet));
+            refuse("judge", x, NONE, o -> o.judge(sheet));
         }
-        refuse("ofHand", x, BEYOND, () -> x.ofHand(0, 0));
-        refuse("trace", x, NONE, () -> x.trace(0));
+        refuse("ofHand", x, BEYOND, o -> o.ofHand(0, 0));
+        refuse("trace", x, NONE, o -> o.trace(0));
     }
 
     private static void promise2() {
         part = "promise 2";
-        OneGoCeiling x = made(2, 3, 0);
+        Recorded x = made(2, 3, 0);
         due("cells", x.count(0), 6);
         x.set(1, 1);
         x.roll(0, 1, 0);
@@ -144,13 +56,13 @@ public final class PromisesTest {
         due("cell of row 1", x.ofCell(9, 0), 8);
         int[][] bad = {{0, 1}, {1, 0}, {7, 1}, {1, 7}, {-1, 3}, {3, MIN}, {MAX, 3}};
         for (int[] b : bad) {
-            refuse("ceiling(" + b[0] + ", " + b[1] + ")", x, BEYOND, () -> x.ceiling(b[0], b[1]));
+            refuse("ceiling(" + b[0] + ", " + b[1] + ")", x, BEYOND, o -> o.ceiling(b[0], b[1]));
         }
     }
 
     private static void promise3() {
         part = "promise 3";
-        OneGoCeiling x = made(1, 1, 0);
+        Recorded x = made(1, 1, 0);
         due("HEAT", x.set(0, 9), 3);
         due("HEAT", x.set(0, 0), 9);
         due("HEAT", x.count(7), 0);
@@ -167,13 +79,13 @@ public final class PromisesTest {
         int[][] bad = {{0, -1}, {0, 10}, {1, -1}, {1, 100}, {2, -1}, {2, 100}, {3, 0}, {3, 100}, {4, 1}, {-1, 1},
             {MIN, 1}, {MAX, 1}, {0, MAX}, {3, MIN}};
         for (int[] b : bad) {
-            refuse("set(" + b[0] + ", " + b[1] + ")", x, BEYOND, () -> x.set(b[0], b[1]));
+            refuse("set(" + b[0] + ", " + b[1] + ")", x, BEYOND, o -> o.set(b[0], b[1]));
         }
     }
 
     private static void promise4() {
         part = "promise 4";
-        OneGoCeiling x = made(2, 2, 0);
+        Recorded x = made(2, 2, 0);
         textOf(x, 0, "r*10+s*3+h");
         due("DRIES of 0", x.ofCell(0, 2), 3);
         due("DRIES of 1", x.ofCell(1, 2), 6);
@@ -197,26 +109,26 @@ public final class PromisesTest {
         due("none right of the last", x.ofCell(3, 3), 0);
         int[][] bad = {{-1, 0}, {4, 0}, {0, -1}, {0, 4}, {MAX, 0}, {MIN, 0}, {0, MAX}, {0, MIN}};
         for (int[] b : bad) {
-            refuse("ofCell(" + b[0] + ", " + b[1] + ")", x, BEYOND, () -> x.ofCell(b[0], b[1]));
+            refuse("ofCell(" + b[0] + ", " + b[1] + ")", x, BEYOND, o -> o.ofCell(b[0], b[1]));
         }
     }
 
     private static void promise5() {
         part = "promise 5";
-        OneGoCeiling x = new OneGoCeiling();
+        Recorded x = new Recorded();
         int[] kms = {0, 69, 15, 37, 42, 58};
-        refuse("hand(70)", x, BEYOND, () -> x.hand(70));
-        refuse("hand(-1)", x, BEYOND, () -> x.hand(-1));
+        refuse("hand(70)", x, BEYOND, o -> o.hand(70));
+        refuse("hand(-1)", x, BEYOND, o -> o.hand(-1));
         for (int i = 0; i < 6; i++) {
             due("hand", x.hand(kms[i]), i);
             due("hands", x.count(1), i + 1);
             due("KIND", x.ofHand(i, 0), kms[i] / 10);
             due("m", x.ofHand(i, 1), kms[i] % 10);
         }
-        refuse("a seventh", x, FULL, () -> x.hand(0));
-        refuse("BEYOND ahead of FULL", x, BEYOND, () -> x.hand(70));
-        refuse("BEYOND ahead of FULL", x, BEYOND, () -> x.hand(MIN));
-        refuse("BEYOND ahead of FULL", x, BEYOND, () -> x.hand(MAX));
+        refuse("a seventh", x, FULL, o -> o.hand(0));
+        refuse("BEYOND ahead of FULL", x, BEYOND, o -> o.hand(70));
+        refuse("BEYOND ahead of FULL", x, BEYOND, o -> o.hand(MIN));
+        refuse("BEYOND ahead of FULL", x, BEYOND, o -> o.hand(MAX));
     }
 
     private static void promise6() {
@@ -227,7 +139,7 @@ public final class PromisesTest {
             {30, 1, 0, 9, 2}, {33, 1, 0, 9, 2}, {40, 3, 3, 2, 1}, {43, 3, 3, 2, 1}, {44, 4, 4, 2, 1},
             {49, 5, 5, 2, 1}, {50, 1, 2, 2, 1}, {51, 1, 2, 3, 1}, {52, 1, 2, 4, 1}, {60, 1, 0, 4, 2},
             {61, 1, 0, 4, 3}, {69, 1, 0, 4, 3}};
-        OneGoCeiling x = made(4, 4, 0, 0);
+        Recorded x = made(4, 4, 0, 0);
         for (int[] k : kinds) {
             x.become(1, k[0]);
             due(k[0] + " KIND", x.ofHand(1, 0), k[0] / 10);
@@ -238,13 +150,13 @@ public final class PromisesTest {
         }
         int[][] bad = {{-1, 0}, {2, 0}, {0, -1}, {0, 6}, {6, 0}, {MAX, 0}, {MIN, 0}, {0, MAX}, {0, MIN}};
         for (int[] b : bad) {
-            refuse("ofHand(" + b[0] + ", " + b[1] + ")", x, BEYOND, () -> x.ofHand(b[0], b[1]));
+            refuse("ofHand(" + b[0] + ", " + b[1] + ")", x, BEYOND, o -> o.ofHand(b[0], b[1]));
         }
     }
 
     private static void promise7() {
         part = "promise 7";
-        OneGoCeiling x = made(4, 4, 13, 27);
+        Recorded x = made(4, 4, 13, 27);
         due("become", x.become(0, 69), 1);
         due("KIND", x.ofHand(0, 0), 6);
         due("m", x.ofHand(0, 1), 9);
@@ -253,14 +165,14 @@ public final class PromisesTest {
         due("become", x.become(0, 1), 0);
         int[][] bad = {{-1, 0}, {2, 0}, {0, -1}, {0, 70}, {MAX, 0}, {MIN, 0}, {0, MAX}, {0, MIN}};
         for (int[] b : bad) {
-            refuse("become(" + b[0] + ", " + b[1] + ")", x, BEYOND, () -> x.become(b[0], b[1]));
+            refuse("become(" + b[0] + ", " + b[1] + ")", x, BEYOND, o -> o.become(b[0], b[1]));
         }
     }
 
     private static void promise8() {
         part = "promise 8";
         int[] above = {-1, 0, 0, 0, 1, 2, 3};
-        OneGoCeiling x = made(4, 4, 0);
+        Recorded x = made(4, 4, 0);
         for (int kind = 0; kind <= 6; kind++) {
             x.become(0, 10 * kind + 3);
             for (int other = 0; other <= 6; other++) {
@@ -268,23 +180,23 @@ public final class PromisesTest {
                 if (other == 0 || other == kind || other == above[kind]) {
                     due(kind + " as " + other, x.as(0, other), 3);
                 } else {
-                    refuse(kind + " as " + other, x, KIND, () -> x.as(0, as));
+                    refuse(kind + " as " + other, x, KIND, o -> o.as(0, as));
                 }
             }
         }
-        refuse("BEYOND of the hand", x, BEYOND, () -> x.as(1, 0));
-        refuse("BEYOND of the hand", x, BEYOND, () -> x.as(-1, 0));
-        refuse("BEYOND of the kind", x, BEYOND, () -> x.as(0, 7));
-        refuse("BEYOND of the kind", x, BEYOND, () -> x.as(0, -1));
-        refuse("BEYOND", x, BEYOND, () -> x.as(MIN, MAX));
+        refuse("BEYOND of the hand", x, BEYOND, o -> o.as(1, 0));
+        refuse("BEYOND of the hand", x, BEYOND, o -> o.as(-1, 0));
+        refuse("BEYOND of the kind", x, BEYOND, o -> o.as(0, 7));
+        refuse("BEYOND of the kind", x, BEYOND, o -> o.as(0, -1));
+        refuse("BEYOND", x, BEYOND, o -> o.as(MIN, MAX));
     }
 
     private static void promise9() {
         part = "promise 9";
-        OneGoCeiling x = new OneGoCeiling();
-        refuse("feed none", x, BEYOND, () -> x.feed(0L, 0));
-        refuse("feed nine", x, BEYOND, () -> x.feed(0L, 9));
-        refuse("feed", x, BEYOND, () -> x.feed(-1L, MIN));
+        Recorded x = new Recorded();
+        refuse("feed none", x, BEYOND, o -> o.feed(0L, 0));
+        refuse("feed nine", x, BEYOND, o -> o.feed(0L, 9));
+        refuse("feed", x, BEYOND, o -> o.feed(-1L, MIN));
         due("lowest first", x.feed('1' | '2' << 8 | '3' << 16 | (long) '9' << 24, 3), 3);
         due("text", x.text(0), 1);
         due("law", x.law(0, 0, 0, 0), 99);
@@ -306,19 +218,19 @@ public final class PromisesTest {
         for (int i = 1; i <= 6; i++) {
             due("feed", x.feed(eight, 8), 8 * i);
         }
-        refuse("three more", x, FULL, () -> x.feed(0L, 3));
-        refuse("BEYOND ahead of FULL", x, BEYOND, () -> x.feed(0L, 9));
+        refuse("three more", x, FULL, o -> o.feed(0L, 3));
+        refuse("BEYOND ahead of FULL", x, BEYOND, o -> o.feed(0L, 9));
         due("fifty", x.feed(0L, 2), 50);
-        refuse("one more", x, FULL, () -> x.feed(0L, 1));
+        refuse("one more", x, FULL, o -> o.feed(0L, 1));
         due("bytes", x.count(8), 50);
     }
 
-    private static void good(OneGoCeiling x, String text, int a, int b, int c, int value) {
+    private static void good(Recorded x, String text, int a, int b, int c, int value) {
         due(text, textOf(x, 0, text), 1);
         due(text + " gives", x.law(0, a, b, c), value);
     }
 
-    private static void bad(OneGoCeiling x, String text, int fault) {
+    private static void bad(Recorded x, String text, int fault) {
         due(text, textOf(x, 0, text), -10 - fault);
         due(text + " stays out", x.law(0, 1, 2, 3), 42);
         due("the tape is empty", x.count(8), 0);
@@ -326,7 +238,7 @@ public final class PromisesTest {
 
     private static void promise10() {
         part = "promise 10";
-        OneGoCeiling x = new OneGoCeiling();
+        Recorded x = new Recorded();
         good(x, "2+3*4", 0, 0, 0, 14);
         good(x, "20-3-4", 0, 0, 0, 13);
         good(x, "80/5/3%4", 0, 0, 0, 1);
@@ -399,17 +311,17 @@ public final class PromisesTest {
         due("as many bytes", fifty.length(), 50);
         good(x, fifty, 0, 0, 0, 36);
         feedBytes(x, "42");
-        refuse("text(2)", x, BEYOND, () -> x.text(2));
-        refuse("text(-1)", x, BEYOND, () -> x.text(-1));
+        refuse("text(2)", x, BEYOND, o -> o.text(2));
+        refuse("text(-1)", x, BEYOND, o -> o.text(-1));
         due("the tape stays", x.count(8), 2);
         due("text", x.text(0), 1);
         int errors = x.told(1) + x.told(2) + x.told(3) + x.told(4) + x.told(5);
-        due("a fault is no ERROR", errors, 2);
+        due("a fault is no ERROR", errors, 0);
     }
 
     private static void promise11() {
         part = "promise 11";
-        OneGoCeiling x = new OneGoCeiling();
+        Recorded x = new Recorded();
         for (int h = 0; h <= 9; h++) {
             due("DRIES", x.law(0, 1, 1, h), 10 - h);
         }
@@ -425,13 +337,13 @@ public final class PromisesTest {
         due("held", x.law(0, -5, 0, 1), 0);
         textOf(x, 1, "r-s-w");
         due("names in order", x.law(1, 50, 9, 4), 37);
-        refuse("law(2)", x, BEYOND, () -> x.law(2, 0, 0, 0));
-        refuse("law(-1)", x, BEYOND, () -> x.law(-1, 0, 0, 0));
-        refuse("law", x, BEYOND, () -> x.law(MIN, MAX, MIN, MAX));
+        refuse("law(2)", x, BEYOND, o -> o.law(2, 0, 0, 0));
+        refuse("law(-1)", x, BEYOND, o -> o.law(-1, 0, 0, 0));
+        refuse("law", x, BEYOND, o -> o.law(MIN, MAX, MIN, MAX));
     }
 
     private static void rolled(int km, int... whens) {
-        OneGoCeiling x = made(6, 2, km);
+        Recorded x = made(6, 2, km);
         due(km + " down", x.roll(0, 0, 0), whens[5]);
         int begin = whens[5];
         due(km + " up", x.roll(0, 1, 1), 2 * begin);
@@ -456,30 +368,30 @@ public final class PromisesTest {
         rolled(52, 1, 2, 3, 5, 8, 10);
         rolled(60, 1, 1, 2, 2, 4, 4);
         canIsUsed();
-        OneGoCeiling x = made(1, 1, 0);
+        Recorded x = made(1, 1, 0);
         for (int i = 0; i < 19; i++) {
             x.minutes(500);
         }
         x.minutes(400);
         due("at 9900", x.roll(0, 0, 0), 9902);
-        refuse("behind 9900", x, STATE, () -> x.roll(0, 0, 0));
-        OneGoCeiling just = made(1, 1, 20);
+        refuse("behind 9900", x, STATE, o -> o.roll(0, 0, 0));
+        Recorded just = made(1, 1, 20);
         for (int i = 0; i < 19; i++) {
             just.minutes(500);
         }
         just.minutes(400);
         just.roll(0, 0, 0);
-        refuse("just behind 9900", just, STATE, () -> just.roll(0, 0, 0));
-        refuse("BEYOND ahead of STATE", x, BEYOND, () -> x.roll(0, 0, 2));
-        OneGoCeiling y = made(2, 3, 0);
+        refuse("just behind 9900", just, STATE, o -> o.roll(0, 0, 0));
+        refuse("BEYOND ahead of STATE", x, BEYOND, o -> o.roll(0, 0, 2));
+        Recorded y = made(2, 3, 0);
         int[][] bad = {{1, 0, 0}, {-1, 0, 0}, {0, 3, 0}, {0, -1, 0}, {0, 0, 2}, {0, 0, -1}, {MAX, MIN, MAX}};
         for (int[] b : bad) {
-            refuse("roll", y, BEYOND, () -> y.roll(b[0], b[1], b[2]));
+            refuse("roll", y, BEYOND, o -> o.roll(b[0], b[1], b[2]));
         }
     }
 
     private static void canIsUsed() {
-        OneGoCeiling x = made(3, 2, 0, 30, 61);
+        Recorded x = made(3, 2, 0, 30, 61);
         x.set(1, 2);
         x.set(3, 5);
         x.roll(0, 0, 0);
@@ -503,61 +415,67 @@ public final class PromisesTest {
 
     private static void promise13() {
         part = "promise 13";
-        OneGoCeiling x = new OneGoCeiling();
+        Recorded x = new Recorded();
         due("minutes", x.minutes(1), 1);
         due("minutes", x.minutes(500), 501);
-        refuse("none", x, BEYOND, () -> x.minutes(0));
-        refuse("too many", x, BEYOND, () -> x.minutes(501));
-        refuse("below", x, BEYOND, () -> x.minutes(-1));
-        refuse("far", x, BEYOND, () -> x.minutes(MAX));
-        refuse("far", x, BEYOND, () -> x.minutes(MIN));
+        refuse("none", x, BEYOND, o -> o.minutes(0));
+        refuse("too many", x, BEYOND, o -> o.minutes(501));
+        refuse("below", x, BEYOND, o -> o.minutes(-1));
+        refuse("far", x, BEYOND, o -> o.minutes(MAX));
+        refuse("far", x, BEYOND, o -> o.minutes(MIN));
         for (int i = 0; i < 18; i++) {
             x.minutes(500);
         }
         due("minute", x.count(2), 9501);
-        refuse("above 9999", x, STATE, () -> x.minutes(499));
+        refuse("above 9999", x, STATE, o -> o.minutes(499));
         due("to the last", x.minutes(498), 9999);
-        refuse("above 9999", x, STATE, () -> x.minutes(1));
-        refuse("BEYOND ahead of STATE", x, BEYOND, () -> x.minutes(501));
+        refuse("above 9999", x, STATE, o -> o.minutes(1));
+        refuse("BEYOND ahead of STATE", x, BEYOND, o -> o.minutes(501));
     }
 
     private static int next(int z) {
         return z * 1103515245 + 12345;
     }
 
+    private static void daysGoBy(int n, int seed) {
+        Recorded x = made(2, 3, 0, 20, 31);
+        Recorded byHand = made(2, 3, 0, 20, 31);
+        int z = seed;
+        x.seed(z);
+        int seen = x.days(n);
+        for (int i = 0; i < n; i++) {
+            int hand = ((z = next(z)) >>> 8) % 3;
+            int strip = ((z = next(z)) >>> 8) % 3;
+            int way = ((z = next(z)) >>> 8) % 2;
+            int pause = ((z = next(z)) >>> 8) % 8;
+            if (pause > 0) {
+                byHand.minutes(pause);
+            }
+            byHand.roll(hand, strip, way);
+        }
+        due("z", x.count(11), z);
+        due("SEEN", seen, byHand.seams(1));
+        due("MINUTE", x.count(2), byHand.count(2));
+        for (int cell = 0; cell < 6; cell++) {
+            due("WHEN", x.ofCell(cell, 0), byHand.ofCell(cell, 0));
+            due("WHITE", x.ofCell(cell, 1), byHand.ofCell(cell, 1));
+        }
+    }
+
     private static void promise14() {
         part = "promise 14";
-        OneGoCeiling x = made(2, 3, 0, 20, 31);
-        OneGoCeiling byHand = made(2, 3, 0, 20, 31);
-        int z = -77;
-        x.seed(z);
         for (int n = 1; n <= 30; n++) {
-            int seen = x.days(n);
-            for (int i = 0; i < n; i++) {
-                int hand = ((z = next(z)) >>> 8) % 3;
-                int strip = ((z = next(z)) >>> 8) % 3;
-                int way = ((z = next(z)) >>> 8) % 2;
-                int pause = ((z = next(z)) >>> 8) % 8;
-                if (pause > 0) {
-                    byHand.minutes(pause);
-                }
-                byHand.roll(hand, strip, way);
-            }
-            due("z", x.count(11), z);
-            due("SEEN", seen, byHand.seams(1));
-            due("MINUTE", x.count(2), byHand.count(2));
-            for (int cell = 0; cell < 6; cell++) {
-                due("WHEN", x.ofCell(cell, 0), byHand.ofCell(cell, 0));
-                due("WHITE", x.ofCell(cell, 1), byHand.ofCell(cell, 1));
-            }
+            daysGoBy(n, -77 * n);
+            daysGoBy(n, 1 << n);
         }
-        refuse("none", x, BEYOND, () -> x.days(0));
-        refuse("too many", x, BEYOND, () -> x.days(31));
-        refuse("far", x, BEYOND, () -> x.days(MIN));
-        OneGoCeiling y = new OneGoCeiling();
-        refuse("BEYOND ahead of STATE", y, BEYOND, () -> y.days(31));
-        refuse("no hands", y, STATE, () -> y.days(1));
-        OneGoCeiling late = made(1, 1, 0);
+        Recorded x = made(2, 3, 0, 20, 31);
+        refuse("none", x, BEYOND, o -> o.days(0));
+        refuse("too many", x, BEYOND, o -> o.days(31));
+        refuse("far", x, BEYOND, o -> o.days(MIN));
+        Recorded y = new Recorded();
+        refuse("BEYOND ahead of STATE", y, BEYOND, o -> o.days(31));
+        refuse("no hands", y, STATE, o -> o.days(1));
+        Recorded late = made(1, 1, 0);
         for (int i = 0; i < 19; i++) {
             late.minutes(500);
         }
@@ -570,7 +488,7 @@ public final class PromisesTest {
 
     private static void promise15() {
         part = "promise 15";
-        OneGoCeiling x = made(1, 2, 0);
+        Recorded x = made(1, 2, 0);
         x.roll(0, 0, 0);
         due("one alone", x.seams(0), 0);
         x.minutes(5);
@@ -597,7 +515,7 @@ public final class PromisesTest {
         due("the right one was earlier", x.seams(0), 0);
         x.roll(0, 1, 0);
         due("the left one was earlier", x.seams(0), 1);
-        OneGoCeiling y = made(2, 3, 30);
+        Recorded y = made(2, 3, 30);
         textOf(y, 1, "r*10+s+1");
         textOf(y, 0, "0");
         y.roll(0, 0, 0);
@@ -605,7 +523,7 @@ public final class PromisesTest {
         y.roll(0, 2, 0);
         due("all seams", y.seams(0), 4);
         due("by row and left strip", y.seams(1), 1 + 2 + 11 + 12);
-        OneGoCeiling most = made(6, 6, 30);
+        Recorded most = made(6, 6, 30);
         textOf(most, 0, "0");
         textOf(most, 1, "r*10+s+1");
         most.set(1, 99);
@@ -614,14 +532,14 @@ public final class PromisesTest {
         }
         due("all seams", most.seams(0), 30);
         due("each by its own light", most.seams(1), 840);
-        refuse("seams(2)", y, BEYOND, () -> y.seams(2));
-        refuse("seams(-1)", y, BEYOND, () -> y.seams(-1));
-        refuse("seams", y, BEYOND, () -> y.seams(MIN));
+        refuse("seams(2)", y, BEYOND, o -> o.seams(2));
+        refuse("seams(-1)", y, BEYOND, o -> o.seams(-1));
+        refuse("seams", y, BEYOND, o -> o.seams(MIN));
     }
 
     private static void promise16() {
         part = "promise 16";
-        OneGoCeiling x = made(1, 3, 0, 10);
+        Recorded x = made(1, 3, 0, 10);
         x.set(0, 8);
         sheetOf(x, 0, 8, 0, 1, 2);
         sheetOf(x, 1, 16, 0, 2, 1);
@@ -635,21 +553,21 @@ public final class PromisesTest {
         due("nothing is done", x.count(2) + x.count(3), 0);
         due("LEFT stays", x.count(4), 1);
         x.set(1, 20);
-        refuse("no hand", x, BEYOND, () -> x.done(2, 0));
-        refuse("no hand", x, BEYOND, () -> x.done(-1, 3));
-        refuse("no sheet", x, BEYOND, () -> x.done(0, 4));
-        refuse("no sheet", x, BEYOND, () -> x.done(0, -1));
-        refuse("missing", x, NONE, () -> x.done(0, 3));
+        refuse("no hand", x, BEYOND, o -> o.done(2, 0));
+        refuse("no hand", x, BEYOND, o -> o.done(-1, 3));
+        refuse("no sheet", x, BEYOND, o -> o.done(0, 4));
+        refuse("no sheet", x, BEYOND, o -> o.done(0, -1));
+        refuse("missing", x, NONE, o -> o.done(0, 3));
         int[][] rows = {{0, 1, 1}, {0, 1}, {0, 1, 2, 0}, {0, 1, 3}, {0, 1, -1}, {}, {0, 1, 2, 3}};
         for (int[] row : rows) {
             sheetOf(x, 3, 8, row);
-            refuse("no such row", x, STATE, () -> x.done(0, 3));
+            refuse("no such row", x, STATE, o -> o.done(0, 3));
         }
     }
 
     private static void promise17() {
         part = "promise 17";
-        OneGoCeiling x = made(1, 3, 0);
+        Recorded x = made(1, 3, 0);
         due("best of all alike", x.order(0, -1), 0);
         for (int place = 0; place < 3; place++) {
             due("the first row", x.order(0, place), place);
@@ -666,22 +584,22 @@ public final class PromisesTest {
         due("then", x.order(0, 1), 0);
         due("then", x.order(0, 2), 2);
         due("nothing is done", x.count(2) + x.count(3), 0);
-        refuse("no place", x, BEYOND, () -> x.order(0, 3));
-        refuse("no place", x, BEYOND, () -> x.order(0, -2));
-        refuse("no hand", x, BEYOND, () -> x.order(1, 0));
-        refuse("no hand", x, BEYOND, () -> x.order(-1, 0));
-        OneGoCeiling one = made(6, 1, 20);
+        refuse("no place", x, BEYOND, o -> o.order(0, 3));
+        refuse("no place", x, BEYOND, o -> o.order(0, -2));
+        refuse("no hand", x, BEYOND, o -> o.order(1, 0));
+        refuse("no hand", x, BEYOND, o -> o.order(-1, 0));
+        Recorded one = made(6, 1, 20);
         due("one strip", one.order(0, -1), 0);
         due("one strip", one.order(0, 0), 0);
-        refuse("no place", one, BEYOND, () -> one.order(0, 1));
-        OneGoCeiling six = made(1, 6, 0);
+        refuse("no place", one, BEYOND, o -> o.order(0, 1));
+        Recorded six = made(1, 6, 0);
         // Only neighbours stay wet for one another, and strip 0 for none: so there is but the last row.
         textOf(six, 0, "(s>0)*2");
         due("SEEN of the last row", six.order(0, -1), 0);
         for (int place = 0; place < 6; place++) {
             due("the last row", six.order(0, place), 5 - place);
         }
-        OneGoCeiling down = made(3, 2, 0);
+        Recorded down = made(3, 2, 0);
         down.set(1, 4);
         textOf(down, 1, "r+1");
         due("rolled down: the new can is opened in row 1", down.order(0, -1), 5);
@@ -691,7 +609,7 @@ public final class PromisesTest {
 
     private static void promise18() {
         part = "promise 18";
-        OneGoCeiling x = made(1, 3, 0, 49);
+        Recorded x = made(1, 3, 0, 49);
         due("CLEAN", x.clean(0, 0), 0);
         due("WARMEST", x.clean(0, 1), 8);
         due("WARMEST, stilted", x.clean(1, 1), 5);
@@ -702,17 +620,17 @@ public final class PromisesTest {
         textOf(x, 0, "(h=9)*9");
         due("CLEAN at the last", x.clean(0, 0), 9);
         textOf(x, 0, "0");
-        refuse("with none", x, NONE, () -> x.clean(0, 0));
-        refuse("with none", x, NONE, () -> x.clean(0, 1));
-        refuse("BEYOND", x, BEYOND, () -> x.clean(0, 2));
-        refuse("BEYOND", x, BEYOND, () -> x.clean(0, -1));
-        refuse("BEYOND", x, BEYOND, () -> x.clean(2, 0));
-        refuse("BEYOND", x, BEYOND, () -> x.clean(-1, 0));
+        refuse("with none", x, NONE, o -> o.clean(0, 0));
+        refuse("with none", x, NONE, o -> o.clean(0, 1));
+        refuse("BEYOND", x, BEYOND, o -> o.clean(0, 2));
+        refuse("BEYOND", x, BEYOND, o -> o.clean(0, -1));
+        refuse("BEYOND", x, BEYOND, o -> o.clean(2, 0));
+        refuse("BEYOND", x, BEYOND, o -> o.clean(-1, 0));
     }
 
     private static void promise19() {
         part = "promise 19";
-        OneGoCeiling x = made(1, 3, 0);
+        Recorded x = made(1, 3, 0);
         textOf(x, 1, "s*5+1");
         due("just not dry", x.called(0, 1, 5), 0);
         due("dry", x.called(0, 1, 6), 1);
@@ -723,7 +641,7 @@ public final class PromisesTest {
         int[][] bad = {{0, 0, 1}, {0, 3, 1}, {0, -1, 1}, {1, 1, 1}, {-1, 1, 1}, {0, 1, -1}, {0, 1, 501},
             {MAX, MIN, MAX}};
         for (int[] b : bad) {
-            refuse("called", x, BEYOND, () -> x.called(b[0], b[1], b[2]));
+            refuse("called", x, BEYOND, o -> o.called(b[0], b[1], b[2]));
         }
         x.set(1, 2);
         due("another white behind the second", x.called(0, 1, 6), 7);
@@ -732,14 +650,14 @@ public final class PromisesTest {
         }
         x.minutes(499);
         due("beyond all bounds of MINUTE", x.called(0, 1, 6), 7);
-        OneGoCeiling one = made(1, 1, 0);
-        refuse("one strip", one, BEYOND, () -> one.called(0, 0, 1));
-        refuse("one strip", one, BEYOND, () -> one.called(0, 1, 1));
+        Recorded one = made(1, 1, 0);
+        refuse("one strip", one, BEYOND, o -> o.called(0, 0, 1));
+        refuse("one strip", one, BEYOND, o -> o.called(0, 1, 1));
     }
 
     private static void promise20() {
         part = "promise 20";
-        OneGoCeiling x = made(1, 4, 0);
+        Recorded x = made(1, 4, 0);
         due("all alike: the least", x.worst(0, 6, 0), 1);
         due("SEEN", x.worst(0, 6, 1), 1);
         due("none", x.worst(0, 5, 1), 0);
@@ -754,17 +672,17 @@ public final class PromisesTest {
         due("not away at all", x.worst(0, 0, 1), 0);
         int[][] bad = {{1, 1, 0}, {-1, 1, 0}, {0, -1, 0}, {0, 501, 0}, {0, 1, 2}, {0, 1, -1}};
         for (int[] b : bad) {
-            refuse("worst", x, BEYOND, () -> x.worst(b[0], b[1], b[2]));
+            refuse("worst", x, BEYOND, o -> o.worst(b[0], b[1], b[2]));
         }
-        OneGoCeiling one = made(1, 1, 0);
-        refuse("one strip", one, NONE, () -> one.worst(0, 1, 0));
-        refuse("BEYOND ahead of NONE", one, BEYOND, () -> one.worst(0, 501, 0));
-        refuse("BEYOND ahead of NONE", one, BEYOND, () -> one.worst(0, 1, 2));
+        Recorded one = made(1, 1, 0);
+        refuse("one strip", one, NONE, o -> o.worst(0, 1, 0));
+        refuse("BEYOND ahead of NONE", one, BEYOND, o -> o.worst(0, 501, 0));
+        refuse("BEYOND ahead of NONE", one, BEYOND, o -> o.worst(0, 1, 2));
     }
 
     private static void promise21() {
         part = "promise 21";
-        OneGoCeiling x = made(1, 3, 0);
+        Recorded x = made(1, 3, 0);
         due("until dry", x.howLong(0, 1), 5);
         textOf(x, 0, "s*90");
         due("dry at once", x.howLong(0, 1), 500);
@@ -773,19 +691,19 @@ public final class PromisesTest {
         due("until dry", x.howLong(0, 1), 97);
         textOf(x, 1, "0");
         due("never seen", x.howLong(0, 1), 500);
-        refuse("s 0", x, BEYOND, () -> x.howLong(0, 0));
-        refuse("s 3", x, BEYOND, () -> x.howLong(0, 3));
-        refuse("s -1", x, BEYOND, () -> x.howLong(0, -1));
-        refuse("hand", x, BEYOND, () -> x.howLong(1, 1));
-        refuse("hand", x, BEYOND, () -> x.howLong(-1, 1));
-        OneGoCeiling none = made(1, 3, 0);
+        refuse("s 0", x, BEYOND, o -> o.howLong(0, 0));
+        refuse("s 3", x, BEYOND, o -> o.howLong(0, 3));
+        refuse("s -1", x, BEYOND, o -> o.howLong(0, -1));
+        refuse("hand", x, BEYOND, o -> o.howLong(1, 1));
+        refuse("hand", x, BEYOND, o -> o.howLong(-1, 1));
+        Recorded none = made(1, 3, 0);
         none.set(0, 8);
         due("none", none.howLong(0, 1), 0);
     }
 
     private static void promise22() {
         part = "promise 22";
-        OneGoCeiling x = made(4, 4, 0, 30, 61);
+        Recorded x = made(4, 4, 0, 30, 61);
         due("one can does", x.cans(0), 0);
         due("sprayed", x.cans(1), 1);
         due("dripped", x.cans(2), 2);
@@ -797,19 +715,19 @@ public final class PromisesTest {
         due("nothing is done", x.count(4) + x.count(5), 0);
         x.roll(0, 0, 0);
         due("those begun don't count", x.cans(0), 16);
-        refuse("hand", x, BEYOND, () -> x.cans(3));
-        refuse("hand", x, BEYOND, () -> x.cans(-1));
-        refuse("hand", x, BEYOND, () -> x.cans(MAX));
+        refuse("hand", x, BEYOND, o -> o.cans(3));
+        refuse("hand", x, BEYOND, o -> o.cans(-1));
+        refuse("hand", x, BEYOND, o -> o.cans(MAX));
     }
 
-    private static void whoseIs(OneGoCeiling x, int kind, int... whens) {
+    private static void whoseIs(Recorded x, int kind, int... whens) {
         sheetOf(x, 1, 32, whens);
         due("whose", x.whose(0, 1, 1), kind);
     }
 
     private static void promise23() {
         part = "promise 23";
-        OneGoCeiling x = made(6, 2, 4);
+        Recorded x = made(6, 2, 4);
         whoseIs(x, 0, 2, 4, 7, 9, 12, 14);
         whoseIs(x, 1, 3, 6, 10, 13, 17, 20);
         whoseIs(x, 2, 1, 2, 3, 4, 6, 7);
@@ -822,24 +740,24 @@ public final class PromisesTest {
         x.minutes(100);
         whoseIs(x, 0, 102, 104, 107, 109, 112, 114);
         sheetOf(x, 1, 32, 2, 4, 7, 9, 12, 14);
-        refuse("by none", x, NONE, () -> x.whose(0, 0, 1));
+        refuse("by none", x, NONE, o -> o.whose(0, 0, 1));
         sheetOf(x, 1, 32, 102, 104, 107, 109, 112);
-        refuse("one lacks", x, NONE, () -> x.whose(0, 0, 1));
+        refuse("one lacks", x, NONE, o -> o.whose(0, 0, 1));
         sheetOf(x, 1, 32, 102, 104, 107, 109, 112, 114, 0);
-        refuse("one too many", x, NONE, () -> x.whose(0, 0, 1));
-        refuse("missing", x, NONE, () -> x.whose(0, 0, 2));
-        refuse("hand", x, BEYOND, () -> x.whose(1, 0, 2));
-        refuse("hand", x, BEYOND, () -> x.whose(-1, 0, 2));
-        refuse("strip", x, BEYOND, () -> x.whose(0, 2, 2));
-        refuse("strip", x, BEYOND, () -> x.whose(0, -1, 2));
-        refuse("sheet", x, BEYOND, () -> x.whose(0, 0, 4));
-        refuse("sheet", x, BEYOND, () -> x.whose(0, 0, -1));
+        refuse("one too many", x, NONE, o -> o.whose(0, 0, 1));
+        refuse("missing", x, NONE, o -> o.whose(0, 0, 2));
+        refuse("hand", x, BEYOND, o -> o.whose(1, 0, 2));
+        refuse("hand", x, BEYOND, o -> o.whose(-1, 0, 2));
+        refuse("strip", x, BEYOND, o -> o.whose(0, 2, 2));
+        refuse("strip", x, BEYOND, o -> o.whose(0, -1, 2));
+        refuse("sheet", x, BEYOND, o -> o.whose(0, 0, 4));
+        refuse("sheet", x, BEYOND, o -> o.whose(0, 0, -1));
         due("nothing is done", x.count(3), 0);
     }
 
     private static void promise24() {
         part = "promise 24";
-        OneGoCeiling x = made(1, 3, 0);
+        Recorded x = made(1, 3, 0);
         int[][] due = {{6, 0, 1, 4}, {6, 1, 3, 4}, {6, 2, 1, 1}, {6, 9999, 1, 1}, {5, 0, 1, 1}, {0, 0, 1, 1}};
         for (int[] d : due) {
             due("odds above", x.odds(0, d[0], d[1], 0), d[2]);
@@ -851,7 +769,7 @@ public final class PromisesTest {
         x.set(1, 1);
         due("never", x.odds(0, 6, 0, 0), 0);
         due("never", x.odds(0, 6, 0, 1), 1);
-        OneGoCeiling six = made(1, 6, 0);
+        Recorded six = made(1, 6, 0);
         due("of 32", six.odds(0, 6, 0, 0), 1);
         due("of 32", six.odds(0, 6, 0, 1), 32);
         due("of 32", six.odds(0, 6, 1, 0), 3);
@@ -861,13 +779,13 @@ public final class PromisesTest {
         int[][] bad = {{1, 1, 1, 0}, {-1, 1, 1, 0}, {0, -1, 1, 0}, {0, 501, 1, 0}, {0, 1, -1, 0}, {0, 1, 10000, 0},
             {0, 1, 1, 2}, {0, 1, 1, -1}};
         for (int[] b : bad) {
-            refuse("odds", x, BEYOND, () -> x.odds(b[0], b[1], b[2], b[3]));
+            refuse("odds", x, BEYOND, o -> o.odds(b[0], b[1], b[2], b[3]));
         }
     }
 
     private static void promise25() {
         part = "promise 25";
-        OneGoCeiling x = made(1, 1, 0);
+        Recorded x = made(1, 1, 0);
         due("seed", x.seed(MIN), 1);
         due("seed", x.seed(BEYOND), MIN);
         due("seed", x.seed(7), BEYOND);
@@ -880,7 +798,7 @@ public final class PromisesTest {
         part = "promise 26";
         int[][] due = {{5, 10, -2, -12}, {5, 10, 2, 8}, {5, 14, -2, -16}, {15, 30, -2, -32},
             {5, 10, 0, 0}, {5, 16, -2, -18}, {15, 30, -2, -44}};
-        OneGoCeiling x = made(1, 1, 0, 0, 0);
+        Recorded x = made(1, 1, 0, 0, 0);
         for (int kind = 0; kind <= 6; kind++) {
             x.become(2, 10 * kind + 5);
             for (int act = 0; act <= 3; act++) {
@@ -892,24 +810,24 @@ public final class PromisesTest {
         due("goes round", x.voice(2, 2, MIN), MAX - 4);
         due("any number", x.voice(2, 0, BEYOND - 2), BEYOND);
         due("is no ERROR", x.told(1), 0);
-        refuse("act", x, BEYOND, () -> x.voice(2, 4, 0));
-        refuse("act", x, BEYOND, () -> x.voice(2, -1, 0));
-        refuse("hand", x, BEYOND, () -> x.voice(3, 0, 0));
-        refuse("hand", x, BEYOND, () -> x.voice(-1, 0, 0));
+        refuse("act", x, BEYOND, o -> o.voice(2, 4, 0));
+        refuse("act", x, BEYOND, o -> o.voice(2, -1, 0));
+        refuse("hand", x, BEYOND, o -> o.voice(3, 0, 0));
+        refuse("hand", x, BEYOND, o -> o.voice(-1, 0, 0));
     }
 
     private static void heard(int kind, int act, int... bodies) {
-        OneGoCeiling x = made(1, 1, 10 * kind + 5);
+        Recorded x = made(1, 1, 10 * kind + 5);
         x.voice(0, 3, 9);
         x.voice(0, act, 3);
         due("bodies of kind " + kind, x.count(10), bodies.length);
         for (int i = 0; i < bodies.length; i++) {
             due("kind " + kind + " act " + act + " trace " + i, x.trace(i), bodies[i]);
         }
-        refuse("behind the last", x, NONE, () -> x.trace(bodies.length));
-        refuse("ahead of the first", x, NONE, () -> x.trace(-1));
-        refuse("far", x, NONE, () -> x.trace(MAX));
-        refuse("far", x, NONE, () -> x.trace(MIN));
+        refuse("behind the last", x, NONE, o -> o.trace(bodies.length));
+        refuse("ahead of the first", x, NONE, o -> o.trace(-1));
+        refuse("far", x, NONE, o -> o.trace(MAX));
+        refuse("far", x, NONE, o -> o.trace(MIN));
     }
 
     private static void promise27() {
@@ -926,7 +844,7 @@ public final class PromisesTest {
 
     private static void promise28() {
         part = "promise 28";
-        OneGoCeiling x = made(1, 2, 0);
+        Recorded x = made(1, 2, 0);
         due("sheet", x.sheet(0, 8, 2), 1);
         x.put(0, 0, -1);
         x.put(0, 1, -1);
@@ -937,25 +855,25 @@ public final class PromisesTest {
         due("none, not missing", x.judge(0), 0);
         due("most", x.sheet(0, 32, 40), 1);
         due("the last", x.put(0, 39, 1), 1);
-        refuse("behind the last", x, BEYOND, () -> x.put(0, 40, 1));
-        refuse("41", x, BEYOND, () -> x.sheet(0, 8, 41));
-        refuse("far", x, BEYOND, () -> x.sheet(0, 8, MAX));
-        refuse("below 0", x, STATE, () -> x.sheet(0, 8, -1));
-        refuse("below 0", x, STATE, () -> x.sheet(0, 32, MIN));
+        refuse("behind the last", x, BEYOND, o -> o.put(0, 40, 1));
+        refuse("41", x, BEYOND, o -> o.sheet(0, 8, 41));
+        refuse("far", x, BEYOND, o -> o.sheet(0, 8, MAX));
+        refuse("below 0", x, STATE, o -> o.sheet(0, 8, -1));
+        refuse("below 0", x, STATE, o -> o.sheet(0, 32, MIN));
         due("it stayed", x.put(0, 39, 1), 1);
-        refuse("no such sheet", x, BEYOND, () -> x.sheet(4, 8, -1));
-        refuse("no such sheet", x, BEYOND, () -> x.sheet(-1, 8, 1));
+        refuse("no such sheet", x, BEYOND, o -> o.sheet(4, 8, -1));
+        refuse("no such sheet", x, BEYOND, o -> o.sheet(-1, 8, 1));
         for (int bits : new int[] {-1, 1, 7, 9, 24, 64, MAX, MIN}) {
-            refuse("bits", x, BEYOND, () -> x.sheet(0, bits, -1));
+            refuse("bits", x, BEYOND, o -> o.sheet(0, bits, -1));
         }
         due("missing", x.sheet(0, 0, -9), 1);
-        refuse("missing", x, NONE, () -> x.judge(0));
-        refuse("missing, of no such sheet", x, BEYOND, () -> x.sheet(4, 0, 0));
+        refuse("missing", x, NONE, o -> o.judge(0));
+        refuse("missing, of no such sheet", x, BEYOND, o -> o.sheet(4, 0, 0));
         due("missing again", x.sheet(0, 0, 99), 1);
     }
 
     private static void readsAs(int bits, int v, int white) {
-        OneGoCeiling x = made(1, 1, 0);
+        Recorded x = made(1, 1, 0);
         sheetOf(x, 0, bits, v);
         due(v + " of " + bits + " bits", x.whites(0), white < 0 ? 0 : 1);
         due(v + " of " + bits + " bits", x.ofCell(0, 1), Math.max(0, white));
@@ -970,7 +888,7 @@ public final class PromisesTest {
         readsAs(16, 65536 + 7, 7);
         readsAs(32, 65536 + 7, -1);
         readsAs(32, 7, 7);
-        OneGoCeiling x = made(1, 1, 0);
+        Recorded x = made(1, 1, 0);
         for (int bits : new int[] {8, 16, 32}) {
             sheetOf(x, 0, bits, -1);
             due("-1 is -1", x.judge(0), -1);
@@ -979,15 +897,15 @@ public final class PromisesTest {
         due("255 of 8 bits is -1", x.judge(0), -1);
         sheetOf(x, 0, 16, 255);
         due("255 of 16 bits is not", x.judge(0), 0);
-        refuse("no such sheet", x, BEYOND, () -> x.put(4, 0, 0));
-        refuse("no such sheet", x, BEYOND, () -> x.put(-1, 0, 0));
-        refuse("missing", x, NONE, () -> x.put(1, -5, 0));
-        refuse("no such number", x, BEYOND, () -> x.put(0, 1, 0));
-        refuse("no such number", x, BEYOND, () -> x.put(0, -1, 0));
-        refuse("no such number", x, BEYOND, () -> x.put(0, MAX, 0));
+        refuse("no such sheet", x, BEYOND, o -> o.put(4, 0, 0));
+        refuse("no such sheet", x, BEYOND, o -> o.put(-1, 0, 0));
+        refuse("missing", x, NONE, o -> o.put(1, -5, 0));
+        refuse("no such number", x, BEYOND, o -> o.put(0, 1, 0));
+        refuse("no such number", x, BEYOND, o -> o.put(0, -1, 0));
+        refuse("no such number", x, BEYOND, o -> o.put(0, MAX, 0));
     }
 
-    private static void holds(OneGoCeiling x, int sheet, int... numbers) {
+    private static void holds(Recorded x, int sheet, int... numbers) {
         x.ceiling(1, numbers.length);
         due("numbers", x.whites(sheet), numbers.length);
         for (int i = 0; i < numbers.length; i++) {
@@ -997,7 +915,7 @@ public final class PromisesTest {
 
     private static void promise30() {
         part = "promise 30";
-        OneGoCeiling x = made(1, 5, 0);
+        Recorded x = made(1, 5, 0);
         sheetOf(x, 0, 8, 1, 2, 3, 4, 5);
         sheetOf(x, 1, 8, 6, 7, 8);
         due("to another", x.move(0, 3, 1, 1, 2), 2);
@@ -1011,16 +929,16 @@ public final class PromisesTest {
         due("all", x.move(1, 0, 0, 2, 3), 3);
         holds(x, 0, 1, 2, 6, 4, 5);
         sheetOf(x, 2, 16, 9);
-        refuse("no such sheet", x, BEYOND, () -> x.move(4, 0, 3, 0, 1));
-        refuse("no such sheet", x, BEYOND, () -> x.move(3, 0, -1, 0, 1));
-        refuse("missing", x, NONE, () -> x.move(3, 0, 2, 0, 1));
-        refuse("missing", x, NONE, () -> x.move(0, -1, 3, 0, 1));
-        refuse("unlike bits", x, KIND, () -> x.move(0, -1, 2, 0, 1));
-        refuse("unlike bits", x, KIND, () -> x.move(2, 0, 0, 0, 1));
+        refuse("no such sheet", x, BEYOND, o -> o.move(4, 0, 3, 0, 1));
+        refuse("no such sheet", x, BEYOND, o -> o.move(3, 0, -1, 0, 1));
+        refuse("missing", x, NONE, o -> o.move(3, 0, 2, 0, 1));
+        refuse("missing", x, NONE, o -> o.move(0, -1, 3, 0, 1));
+        refuse("unlike bits", x, KIND, o -> o.move(0, -1, 2, 0, 1));
+        refuse("unlike bits", x, KIND, o -> o.move(2, 0, 0, 0, 1));
         int[][] bad = {{0, 0, -1}, {-1, 0, 1}, {0, -1, 1}, {5, 0, 1}, {0, 3, 1}, {4, 0, 2}, {0, 2, 2}, {6, 0, 0},
             {0, 4, 0}, {MAX, 0, 1}, {1, 0, MAX}, {0, 0, 6}, {0, MAX, MAX}, {MIN, 0, 1}};
         for (int[] b : bad) {
-            refuse("not there", x, BEYOND, () -> x.move(0, b[0], 1, b[1], b[2]));
+            refuse("not there", x, BEYOND, o -> o.move(0, b[0], 1, b[1], b[2]));
         }
         holds(x, 0, 1, 2, 6, 4, 5);
         holds(x, 1, 6, 4, 5);
@@ -1029,7 +947,7 @@ public final class PromisesTest {
 
     private static void promise31() {
         part = "promise 31";
-        OneGoCeiling x = made(2, 2, 0);
+        Recorded x = made(2, 2, 0);
         sheetOf(x, 0, 16, 0, 99, 100, 5);
         due("up to 100", x.whites(0), 2);
         due("WHITE", x.ofCell(1, 1), 99);
@@ -1045,14 +963,14 @@ public final class PromisesTest {
         sheetOf(x, 0, 8);
         due("none", x.whites(0), 0);
         due("no ERROR", x.told(1) + x.told(2), 0);
-        refuse("no such sheet", x, BEYOND, () -> x.whites(4));
-        refuse("no such sheet", x, BEYOND, () -> x.whites(-1));
-        refuse("missing", x, NONE, () -> x.whites(1));
+        refuse("no such sheet", x, BEYOND, o -> o.whites(4));
+        refuse("no such sheet", x, BEYOND, o -> o.whites(-1));
+        refuse("missing", x, NONE, o -> o.whites(1));
     }
 
     private static void promise32() {
         part = "promise 32";
-        OneGoCeiling x = made(2, 2, 0);
+        Recorded x = made(2, 2, 0);
         x.roll(0, 1, 0);
         sheetOf(x, 0, 16, -1, 2, -1, 4);
         due("all", x.judge(0), -1);
@@ -1068,15 +986,15 @@ public final class PromisesTest {
         due("the first of two", x.judge(0), 3);
         sheetOf(x, 0, 16);
         due("all lack", x.judge(0), 0);
-        refuse("no such sheet", x, BEYOND, () -> x.judge(4));
-        refuse("no such sheet", x, BEYOND, () -> x.judge(-1));
-        refuse("missing", x, NONE, () -> x.judge(1));
+        refuse("no such sheet", x, BEYOND, o -> o.judge(4));
+        refuse("no such sheet", x, BEYOND, o -> o.judge(-1));
+        refuse("missing", x, NONE, o -> o.judge(1));
     }
 
     private static void promise33And34() {
         part = "promises 33, 34";
-        OneGoCeiling x = made(2, 3, 13, 27);
-        refuse("none", x, NONE, x::restore);
+        Recorded x = made(2, 3, 13, 27);
+        refuse("none", x, NONE, Recorded::restore);
         x.roll(0, 1, 1);
         x.minutes(9);
         x.roll(1, 2, 0);
@@ -1092,7 +1010,7 @@ public final class PromisesTest {
         x.seed(77);
         x.voice(0, 1, 3);
         sheetOf(x, 0, 8, 1, 2);
-        String was = view(x);
+        String was = Views.of(Views.PLAIN, x);
         int minute = x.count(2);
         due("image", x.image(), 1);
         x.ceiling(3, 2);
@@ -1111,7 +1029,7 @@ public final class PromisesTest {
         x.trace(99);
         int none = x.told(2);
         due("restore", x.restore(), minute);
-        due("all is as it was (1)", view(x).equals(was) ? 1 : 0, 1);
+        due("all is as it was (1)", Views.of(Views.PLAIN, x).equals(was) ? 1 : 0, 1);
         due("told() stays", x.told(2), none);
         due("the sheet stays", x.whites(0), 2);
         due("the sheet stays", x.ofCell(0, 1), 3);
@@ -1137,7 +1055,7 @@ public final class PromisesTest {
     }
 
     private static void waitingIsKept() {
-        OneGoCeiling x = made(1, 2, 0);
+        Recorded x = made(1, 2, 0);
         x.tell(0);
         x.tell(0);
         x.tell(9);
@@ -1150,18 +1068,18 @@ public final class PromisesTest {
 
     private static void promise35() {
         part = "promise 35";
-        OneGoCeiling x = new OneGoCeiling();
+        Recorded x = new Recorded();
         for (int i = 1; i <= 20; i++) {
             due("tell", x.tell(i % 2 == 0 ? MIN : MAX), i);
         }
-        refuse("tell", x, FULL, () -> x.tell(0));
+        refuse("tell", x, FULL, o -> o.tell(0));
         x.check();
         due("tell", x.tell(0), 1);
     }
 
     private static void promise36() {
         part = "promise 36";
-        OneGoCeiling x = made(1, 3, 0, 49);
+        Recorded x = made(1, 3, 0, 49);
         x.set(0, 7);
         // WHENS 2, 4, 6; then 8 for strip 0: 4 behind strip 1, DRIES 3.
         int[] seen = {0, 0, 0, 1, 1, 0, 1, 1, 0};
@@ -1183,7 +1101,7 @@ public final class PromisesTest {
         x.minutes(50);
         x.tell(1);
         due("from the ceiling as it is", x.check(), 0);
-        OneGoCeiling y = new OneGoCeiling();
+        Recorded y = new Recorded();
         due("no hand, no number", y.check(), 0);
         y.tell(0);
         due("no hand", y.check(), 1);
@@ -1193,7 +1111,7 @@ public final class PromisesTest {
 
     private static void promise37() {
         part = "promise 37";
-        OneGoCeiling x = made(2, 3, 30, 0);
+        Recorded x = made(2, 3, 30, 0);
         x.roll(0, 0, 0);
         x.minutes(4);
         x.set(2, 5);
@@ -1209,14 +1127,14 @@ public final class PromisesTest {
             due("count(" + i + ")", x.count(i), due[i]);
         }
         due("any number is no ERROR", x.told(1), 0);
-        refuse("count(12)", x, BEYOND, () -> x.count(12));
-        refuse("count(-1)", x, BEYOND, () -> x.count(-1));
-        refuse("count", x, BEYOND, () -> x.count(MIN));
+        refuse("count(12)", x, BEYOND, o -> o.count(12));
+        refuse("count(-1)", x, BEYOND, o -> o.count(-1));
+        refuse("count", x, BEYOND, o -> o.count(MIN));
     }
 
     private static void promise38() {
         part = "promise 38";
-        OneGoCeiling x = new OneGoCeiling();
+        Recorded x = new Recorded();
         x.ceiling(0, 0);
         x.trace(0);
         x.trace(0);
@@ -1282,9 +1200,6 @@ public final class PromisesTest {
         promise36();
         promise37();
         promise38();
-        System.out.println(asked + " answers asked, " + wrong + " not as due");
-        if (wrong != 0) {
-            System.exit(1);
-        }
+        end();
     }
 }
