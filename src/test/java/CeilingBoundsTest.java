@@ -63,10 +63,15 @@ public final class CeilingBoundsTest extends Checks {
         due("CELLS", x.count(0), 16);
         bound("a CELL", x, BEYOND, 0, 15, (o, v) -> o.ofCell(v, 0));
         bound("a STRIP", x, BEYOND, 0, 3, (o, v) -> o.roll(0, v, 0));
+        x.set(2, 7);
         x.roll(0, 3, 0);
         for (int cell = 0; cell < 16; cell++) {
             due("rolled (1), cell " + cell, x.ofCell(cell, 0) >= 0 ? 1 : 0, cell % 4 == 3 ? 1 : 0);
+            due("WHITE of cell " + cell, x.ofCell(cell, 1), cell % 4 == 3 ? 7 : 0);
         }
+        x.sheet(0, 8, 17);
+        due("as many WHITES as CELLS", x.whites(0), 16);
+        due("WHITE of the last", x.ofCell(15, 1), 0);
         sentence("Each has a WHEN (the MINUTE in which it was rolled last, or none, at first) and a WHITE (0 at first).");
         Recorded y = made(1, 2, 20);
         due("none at first", y.ofCell(0, 0), -1);
@@ -289,8 +294,9 @@ public final class CeilingBoundsTest extends Checks {
                     refuse(kind + " as " + other, x, KIND, o -> o.as(1, as));
                 }
             }
-            refuse("below the least KIND", x, BEYOND, o -> o.as(1, -1));
-            refuse("above the greatest KIND", x, BEYOND, o -> o.as(1, 7));
+            for (int beyond : new int[] {-1, -2, 7, 8, MIN, MAX}) {
+                refuse("no KIND", x, BEYOND, o -> o.as(1, beyond));
+            }
             refuse("BEYOND ahead of KIND", x, BEYOND, o -> o.as(5, 6));
         }
     }

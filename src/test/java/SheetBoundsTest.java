@@ -92,25 +92,23 @@ public final class SheetBoundsTest extends Checks {
         }
     }
 
-    /** A number of so many bits as it is read: as a WHEN of some MINUTES. */
-    private static void readsAs(int bits, int v, int when) {
+    /** What judge() answers to a number of so many bits, where the only CELL has a WHEN of some MINUTES (-1: none). */
+    private static int judged(int bits, int v, int when) {
         Recorded x = made(1, 1, 20);
         if (when > 0) {
             waitUntil(x, when - 1);
             x.roll(0, 0, 0);
         }
         sheetOf(x, 0, bits, v);
-        due(v + " of " + bits + " bits is " + when, x.judge(0), -1);
+        return x.judge(0);
+    }
+
+    private static void readsAs(int bits, int v, int when) {
+        due(v + " of " + bits + " bits is " + when, judged(bits, v, when), -1);
     }
 
     private static void isNot(int bits, int v, int when) {
-        Recorded x = made(1, 1, 20);
-        if (when > 0) {
-            waitUntil(x, when - 1);
-            x.roll(0, 0, 0);
-        }
-        sheetOf(x, 0, bits, v);
-        due(v + " of " + bits + " bits isn't " + when, x.judge(0), 0);
+        due(v + " of " + bits + " bits isn't " + when, judged(bits, v, when), 0);
     }
 
     private static void lowestBits() {
@@ -311,7 +309,7 @@ public final class SheetBoundsTest extends Checks {
         due("no CELL has a WHEN", x.count(3), 0);
     }
 
-    private static void judged(int due, int... numbers) {
+    private static void judgedBy(int due, int... numbers) {
         Recorded x = made(1, 3, 20);
         x.roll(0, 1, 0);
         x.roll(0, 2, 0);
@@ -324,19 +322,19 @@ public final class SheetBoundsTest extends Checks {
 
     private static void judges() {
         sentence("the first that isn't so (one that lacks, or is too many, too); -1: all are.");
-        judged(-1, -1, 1, 2);
-        judged(0, 0, 1, 2);
-        judged(1, -1, 2, 2);
-        judged(1, -1, 0, 3);
-        judged(2, -1, 1, 3);
-        judged(2, -1, 1, 1);
-        judged(0);
-        judged(1, -1);
-        judged(2, -1, 1);
-        judged(1, -1, 2);
-        judged(3, -1, 1, 2, -1);
-        judged(3, -1, 1, 2, 3, 4);
-        judged(2, -1, 1, -1, 3);
+        judgedBy(-1, -1, 1, 2);
+        judgedBy(0, 0, 1, 2);
+        judgedBy(1, -1, 2, 2);
+        judgedBy(1, -1, 0, 3);
+        judgedBy(2, -1, 1, 3);
+        judgedBy(2, -1, 1, 1);
+        judgedBy(0);
+        judgedBy(1, -1);
+        judgedBy(2, -1, 1);
+        judgedBy(1, -1, 2);
+        judgedBy(3, -1, 1, 2, -1);
+        judgedBy(3, -1, 1, 2, 3, 4);
+        judgedBy(2, -1, 1, -1, 3);
         Recorded x = made(6, 6, 0);
         x.sheet(0, 8, MOST);
         for (int i = 0; i < MOST; i++) {

@@ -128,6 +128,10 @@ public final class TextBoundsTest extends Checks {
         fault(ENOUGH.substring(0, 49) + "+", 50);
         fault(ENOUGH.substring(0, 49) + ")", 49);
         fault(ENOUGH.substring(0, 49) + "r", 49);
+        String signs = "!r" + "+r".repeat(24);
+        due("fifty bytes, each a sign of its own", signs.length(), 50);
+        gives(signs, 4, 0, 0, 96);
+        gives(signs, 0, 0, 0, 1);
         is(ENOUGH, 36);
         is(ENOUGH.substring(0, 49), 25);
     }
