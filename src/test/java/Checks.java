@@ -15,11 +15,29 @@ abstract class Checks {
     static final int MIN = Integer.MIN_VALUE;
     static final int MAX = Integer.MAX_VALUE;
 
+    // The tests take seconds: behind this long a call has failed to end.
+    private static final int MOST_SECONDS = 300;
     private static final String DOCUMENT = document();
 
     static int wrong = 0;
     static int asked = 0;
     static String part = "";
+
+    static {
+        Thread watch = new Thread(Checks::watch);
+        watch.setDaemon(true);
+        watch.start();
+    }
+
+    private static void watch() {
+        try {
+            Thread.sleep(1000L * MOST_SECONDS);
+        } catch (InterruptedException e) {
+            return;
+        }
+        System.out.println(part + ": a call doesn't end");
+        Runtime.getRuntime().halt(1);
+    }
 
     /** A call with one number that is told from outside. */
     interface Asked {
