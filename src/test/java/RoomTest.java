@@ -45,7 +45,7 @@ public final class RoomTest extends Checks {
         long least = MAX;
         for (int round = 0; round < 3; round++) {
             long before = taken();
-            for (int i = 0; i < 40; i++) {
+            for (int i = 0; i < 30; i++) {
                 call.applyAsInt(x);
             }
             least = Math.min(least, taken() - before);
