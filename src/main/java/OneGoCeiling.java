@@ -426,7 +426,7 @@ public final class OneGoCeiling {
             if (hasHand) {
                 thought.rollNext(now, 0, i);
             }
-            if (!hasHand || thought.seenNow() != now.waiting.at(i)) {
+            if (!hasHand || eye.seen(thought.wouldBe()) != now.waiting.at(i)) {
                 answer = 1 + i;
             }
         }
@@ -1340,8 +1340,8 @@ public final class OneGoCeiling {
             return ceiling.cansBegun();
         }
 
-        int seenNow() {
-            return eye.seen(ceiling);
+        Ceiling wouldBe() {
+            return ceiling;
         }
 
         void warmTo(int heat) {
